@@ -18,7 +18,7 @@ public final class ModelTest {
     }
 
     public static void main(String[] args) {
-        int runs = args.length > 0 ? Integer.parseInt(args[0]) : 400;
+        int runs = args.length > 0 ? Integer.parseInt(args[0]) : 1500;
         int firstSeed = args.length > 1 ? Integer.parseInt(args[1]) : 1;
         int wrong = 0;
         for (int seed = firstSeed; seed < firstSeed + runs && wrong < 5; seed++) {

@@ -181,6 +181,52 @@ public final class PromiseTest {
         due("no due", x.about(2), 0);
         due("empty republic", x.republic(), 0);
         due("no months", x.about(0), 0);
+        forgets();
+    }
+
+    /** What a republic tells is nothing to the ones behind it. */
+    private static void forgets() {
+        JuneVote x = new JuneVote();
+        for (int times = 0; times < 3; times++) {
+            Typed.feed(x, "month m from 9 to 9; month n from 9 to 9; person p votes 3 wish days; person q votes 1 wish gets;"
+                + "law days = 9; due d by p to q pays 1 on 1 of m late; sun 9 and 1 of 2; count mean; week 2 broken;");
+            due("republic", x.republic(), 2);
+            x.forgive(0);
+            x.endow(0, 0);
+            x.run(3);
+            due("drift", x.drift(1), 4);
+            Typed.feed(x, "month m from 0 to 9; person q votes 1 wish 0 - (days - 8) * (days - 8); person r votes 1;");
+            due("republic", x.republic(), 1);
+            due("units", x.about(12), 7);
+            due("no law", x.may(0), 1);
+            due("no dues", x.about(2), 0);
+            due("no wish", x.worth(1, 9), 0);
+            due("most", x.counted(), 0);
+            due("votes", x.person(0, 0), 1);
+            due("have", x.person(0, 1), 0);
+            x.decree(9);
+            due("no sun", x.drift(0), 9 - 30);
+            due("week", x.date(8, 3), 1);
+            x.decree(1);
+            due("not broken", x.date(9, 3), 2);
+            Typed.feed(x, "month m from 0 to 9; person p votes 1; person q votes 1; due d by q to p pays 1 on 2 of m;");
+            due("republic", x.republic(), 1);
+            due("not forgiven", x.due(0, 2), 0);
+            due("not paid", x.due(0, 0), 0);
+            due("not lapsed", x.due(0, 1), 0);
+            x.decree(1);
+            due("not late", x.due(0, 1), 1);
+            x.decree(2);
+            due("have", x.person(1, 1), -1);
+        }
+        // As many formulas as a run of calls can tell.
+        JuneVote y = new JuneVote();
+        String sum = "wish 1" + times("+days", 29) + ";";
+        for (int times = 0; times < 24; times++) {
+            Typed.feed(y, "month m from 0 to 9;person p votes 1 " + sum + "person q votes 1 " + sum);
+            due("republic", y.republic(), 1);
+            due("worth", y.worth(1, 3), 1 + 29 * 3);
+        }
     }
 
     private static void fault() {
@@ -215,6 +261,11 @@ public final class PromiseTest {
         faulty("month m from 1 to 2.", 1, 19);
         faulty("month abcdefgh from 1 to 2;", 0, NONE);
         faulty("month abcdefghi from 1 to 2;", 1, 6);
+        faulty("month azaz from 1 to 2;", 0, NONE);
+        faulty("month a{ from 1 to 2;", 1, 7);
+        faulty("month ` from 1 to 2;", 1, 6);
+        faulty("month m from / to 2;", 2, 13);
+        faulty("month m from : to 2;", 1, 13);
         faulty("month m from 00001 to 2;", 1, 13);
         faulty("month m from 0001 to 2;", 0, NONE);
         faulty("month m from 1to 2;", 1, 13);
@@ -228,6 +279,14 @@ public final class PromiseTest {
         faulty("\u00e9", 1, 0);
         faulty("  \n", 0, NONE);
         faulty("law 1 ! 2;", 1, 6);
+        String facts = " days gets owes drift year month have ";
+        for (String word : ("month from to person votes wish due by pays on of late sun and law count most middle mean "
+            + "week broken or not days gets owes drift year have").split(" ")) {
+            faulty("month " + word + " from 1 to 2;", 2, 6);
+            if (!word.equals("not")) {
+                faulty("law " + word + ";", facts.contains(" " + word + " ") ? 0 : 2, 4);
+            }
+        }
         // What stands wrong ahead of it comes first.
         faulty("law law 12345", 2, 4);
         faulty("law 1 1 12345", 2, 6);
@@ -330,6 +389,13 @@ public final class PromiseTest {
         faulty("law - 1;", 2, 4);
         faulty("law 1 and not 2 or not 3;", 0, NONE);
         faulty("law 1 and;", 2, 9);
+        faulty("law 1<;", 2, 6);
+        faulty("law 1+;", 2, 6);
+        faulty("law 1%;", 2, 6);
+        faulty("law 1 or;", 2, 8);
+        faulty("law not;", 2, 7);
+        faulty("law (not);", 2, 8);
+        faulty("law 1<x;", 2, 6);
         faulty("law days gets;", 2, 9);
         faulty("law 1" + times("+1", 29) + ";", 0, NONE);
         faulty("law 1" + times("+1", 30) + ";", 2, 4 + 60);
@@ -732,6 +798,50 @@ public final class PromiseTest {
         }
         due("the oldest are gone", x.undo(), false);
         due("votes", x.person(0, 0), 4);
+        undoAllSorts();
+    }
+
+    private static void undoAllSorts() {
+        JuneVote x = two();
+        int[] sums = new int[61];
+        sums[0] = state(x);
+        for (int i = 1; i <= 60; i++) {
+            switch (i % 7) {
+                case 0:
+                    x.forgive(i % 2);
+                    break;
+                case 1:
+                case 2:
+                    x.endow(i % 2, i % 10);
+                    break;
+                case 3:
+                    x.run(i % 5);
+                    break;
+                default:
+                    x.decree(i % 4);
+                    break;
+            }
+            sums[i] = state(x);
+        }
+        for (int i = 59; i >= 20; i--) {
+            due("undo of " + i, x.undo(), true);
+            due("state " + i, state(x), sums[i]);
+        }
+        due("forty are kept", x.undo(), false);
+        for (int i = 21; i <= 60; i++) {
+            due("redo of " + i, x.redo(), true);
+            due("state " + i, state(x), sums[i]);
+        }
+        due("none left", x.redo(), false);
+    }
+
+    private static int state(JuneVote x) {
+        int sum = x.about(3) * 31 + x.about(4) * 37;
+        for (int i = 0; i < 2; i++) {
+            sum = sum * 41 + x.person(i, 0) * 7 + x.person(i, 1);
+            sum = sum * 43 + x.due(i, 0) * 5 + x.due(i, 1) * 3 + x.due(i, 2);
+        }
+        return sum;
     }
 
     private static void redo() {
@@ -850,6 +960,12 @@ public final class PromiseTest {
         JuneVote z = three("", 1, 1, 1);
         due("own, as none can do better", z.rest(0), 1);
         due("own", z.lies(0) * 100 + z.lies(1) * 10 + z.lies(2), 834);
+        JuneVote v = made("month m from 0 to 31; count mean; person p votes 3 wish (days*3+1)%25;"
+            + "person q votes 9 wish (days*20+37)%33; person r votes 9 wish (days*days*25+days*10)%17;");
+        due("forty turns", v.rest(0), 40);
+        JuneVote w = made("month m from 0 to 27; count mean; person p votes 9 wish (days*days*6+days*38)%27;"
+            + "person q votes 9 wish (days*days*7+days*32)%57; person r votes 8 wish (days*17+36)%39;");
+        due("one more", w.rest(0), NONE);
         due("nobody", made("month m from 3 to 10;").rest(0), 1);
         due("nobody", made("month m from 3 to 10;").rest(1), 3);
         due("without months", new JuneVote().rest(0), NONE);
@@ -884,7 +1000,18 @@ public final class PromiseTest {
         y.plan(0, 1);
         due("more rows", y.plan(0, 3), GAP - 1);
         due("nothing lies", y.about(13), 0);
+        y.decree(3);
+        due("more rows, by another month", y.plan(0, 4), GAP - 1);
+        due("b, c, a", y.plan(0, 3), GAP - 1);
+        due("b, c", y.plan(0, 2), 24 + 26);
         due("by the law", made(months + "26; law days > 1;").plan(0, 3), 31 + 24 + 26);
+        String four = "month a from 5 to 5; month b from 0 to 31; month c from 1 to 24; month d from 1 to 25;"
+            + "person p votes 1 wish days;";
+        due("20,001 rows", made(four).plan(0, 4), GAP - 1);
+        due("20,001 rows by a law", made(four + "law 1;").plan(0, 4), GAP - 1);
+        JuneVote v = made(months + "25; law 1;");
+        due("20,000 rows by a law", v.plan(0, 3), 31 + 24 + 25);
+        due("20,000 rows once more", v.plan(0, 3), 31 + 24 + 25);
         JuneVote w = made("month m from 1 to 2; person p votes 1 wish 1024 * 1024 * 1023 * days;");
         due("wrapping", w.plan(0, 2), 1024 * 1024 * 1023 * 2);
     }
@@ -933,6 +1060,7 @@ public final class PromiseTest {
         JuneVote z = made("month m from 0 to 3; sun 4 and 0 of 1; law days < 3;");
         due("too short: the greatest that may be", z.skew(120, 9, true), 5);
         due("nothing is done", z.about(3), 0);
+        due("just no drift", made("month m from 0 to 9; sun 4 and 0 of 1;").skew(120, 0, true), NONE);
         due("n 0", x.skew(0, 1, true), -2);
         due("n 121", x.skew(121, 1, true), -2);
         due("w -1", x.skew(1, -1, true), -2);
@@ -954,9 +1082,18 @@ public final class PromiseTest {
         due("none does", y.again(0), NONE);
         y.run(1);
         due("1 to 31 are 31 years", y.again(1), NONE);
-        y.run(2);
+        y.run(1);
+        due("2 to 31, and the second 0 is too late", y.again(1), NONE);
+        y.run(1);
         due("3 to 31, and two of 0", y.again(0), 29);
         due("3 to 31, and two of 0", y.again(1), 30);
+        JuneVote w = made("month m from 0 to 2; month n from 1 to 5;"
+            + "person p votes 1 wish (not month) * days * (days < year + 1) + month * days * (year = 1);");
+        due("0 1, 1 5, 2 1, 2 1", w.again(0) * 10 + w.again(1), 23);
+        w.run(1);
+        due("from 1 5 on", w.again(0) * 10 + w.again(1), 12);
+        w.run(1);
+        due("from 1 5 on", w.again(0) * 10 + w.again(1), 12);
         JuneVote z = made("month m from 0 to 31; person p votes 1 wish (not (days - year)) + (year > 6) * (days = 4) * 2;");
         due("the first such", z.again(0), 4);
         due("the first such", z.again(1), 7);

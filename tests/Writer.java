@@ -42,7 +42,7 @@ final class Writer {
         for (int i = 0; i < people; i++) {
             text.append("person p").append((char) ('a' + i)).append(blank()).append("votes ").append(below(10));
             if (!once(6)) {
-                text.append(" wish ").append(formula(once(5) ? 4 : 2));
+                text.append(" wish ").append(once(4) ? wave() : formula(once(5) ? 4 : 2));
             }
             text.append(';').append(blank());
         }
@@ -104,6 +104,11 @@ final class Writer {
             default:
                 return formula(depth - 1) + blank() + "+-*/%".charAt(below(5)) + blank() + formula(depth - 1);
         }
+    }
+
+    /** A wish that goes up and down with the days, so that votes are long in coming to rest. */
+    private String wave() {
+        return "(days*days*" + below(40) + "+days*" + below(40) + (once(2) ? ")%" : "-gets)%") + (2 + below(60));
     }
 
     /** The text with something wrong in it, most times. */

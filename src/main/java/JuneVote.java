@@ -1121,7 +1121,7 @@ public final class JuneVote {
         boolean late;
 
         Due() {
-            by = 0;
+            // All is set when its line is read.
         }
 
         /** On which day of its month it is paid, if that is so long; 0 if it lapses. */
@@ -1965,7 +1965,23 @@ public final class JuneVote {
             months = Math.min(n, LONGEST_PLAN);
             found = false;
             rows = 0;
-            return lookOn(0, 0);
+            return !isSpentAtOnce(now.republic, now.nextMonth()) && lookOn(0, 0);
+        }
+
+        /** Without a law the rows can be counted ahead (32 to the fourth fits an int): nothing need be tried in vain. */
+        private boolean isSpentAtOnce(Republic republic, int firstMonth) {
+            if (republic.hasLaw()) {
+                return false;
+            }
+            int all = 0;
+            int ofThisSize = 1;
+            int month = firstMonth;
+            for (int i = 0; i < months; i++) {
+                ofThisSize *= republic.mostOf(month) - republic.leastOf(month) + 1;
+                all += ofThisSize;
+                month = month + 1 < republic.months ? month + 1 : 0;
+            }
+            return all > MOST_ROWS;
         }
 
         /** Looks at all rows that begin with the first lengths of row, depth of them, of that worth. */
