@@ -51,9 +51,9 @@ public final class JuneVote {
 
     public JuneVote() {
         tape = new Tape();
-        reader = new Reader(tape);
         told = new Republic();
         spare = new Republic();
+        reader = new Reader(tape, spare);
         now = new Calendar(told);
         boxes = new Calendar[BOXES];
         boxFull = new boolean[BOXES];
@@ -161,7 +161,7 @@ public final class JuneVote {
 
     public int date(int n, int what) {
         int i = now.monthHolding(n);
-        if (i == NONE) {
+        if (i == NONE || told.months == 0) {
             return NONE;
         }
         int day = n - now.firstDay(i);
@@ -668,7 +668,8 @@ public final class JuneVote {
         void cut() {
             count = 0;
             int i = 0;
-            for (int tokens = 0; tokens < MOST_BYTES && i < size; tokens++) {
+            // Each step goes on by a byte at least.
+            for (int steps = 0; steps < MOST_BYTES && i < size; steps++) {
                 int first = at(i);
                 if (isBlank(first)) {
                     i++;
@@ -789,8 +790,9 @@ public final class JuneVote {
         int fault;
         int faultPlace;
 
-        Reader(Tape from) {
+        Reader(Tape from, Republic first) {
             tape = from;
+            draft = first;
             monthNames = new long[MOST_MONTHS];
             personNames = new long[MOST_PEOPLE];
             dueNames = new long[MOST_DUES];
@@ -840,7 +842,7 @@ public final class JuneVote {
             return true;
         }
 
-        /** The name stands behind the ones that count, so that it counts once its line is whole. */
+        /** The name is put behind the ones that count; it is one of them when the draft counts its line. */
         private boolean wantNewName(long[] names, int count) {
             if (tape.kind != Tape.NAME || count < 0 || count >= names.length) {
                 return refuse(CANT_STAND);
