@@ -1014,7 +1014,7 @@ final class Model {
         int sum = 0;
         for (int d = 0; d < dues(); d++) {
             Due due = rep.dues.get(d);
-            if ((set >> d & 1) == 1 && !st.forgiven[d]) {
+            if ((set >> d & 1) == 1) {
                 sum += due.to == p ? due.pays : due.by == p ? -due.pays : 0;
             }
         }
@@ -1138,7 +1138,7 @@ final class Model {
             case 2 -> dues();
             case 3 -> st.months.size();
             case 4 -> days(st);
-            case 5 -> months() == 0 ? NONE : yearOf(st);
+            case 5 -> months() == 0 ? 0 : yearOf(st);
             case 6 -> months() == 0 ? NONE : monthOf(st);
             case 7 -> past.size();
             case 8 -> future.size();

@@ -94,7 +94,7 @@ public final class PromiseTest {
         due("NONE", JuneVote.NONE, NONE);
         due("GAP", JuneVote.GAP, GAP);
         for (int what = 0; what < 14; what++) {
-            due("about " + what, x.about(what), what == 5 || what == 6 ? NONE : 0);
+            due("about " + what, x.about(what), what == 6 ? NONE : 0);
         }
         due("fault 0", x.fault(0), 0);
         due("fault 1", x.fault(1), NONE);
@@ -1143,7 +1143,14 @@ public final class PromiseTest {
         due("nobody", x.net(3, 1), GAP);
         due("nobody", x.net(-1, 1), GAP);
         x.forgive(0);
-        due("forgiven is none any more", x.net(0, 7), 4);
+        due("a forgiven one, too", x.net(0, 7), -1);
+        due("a forgiven one alone", x.net(0, 1), -5);
+        due("who gets by a forgiven one", x.net(1, 1), 5);
+        due("who has no part in it", x.net(2, 1), 0);
+        x.run(2);
+        due("whatever was paid", x.net(0, 5), -1);
+        x.forgive(0);
+        due("told again", x.net(0, 1), -5);
     }
 
     private static void lies() {
@@ -1359,7 +1366,16 @@ public final class PromiseTest {
         due("another what", x.about(14), NONE);
         due("another what", x.about(-1), NONE);
         due("units", made("law (1 + days) or not 2;").about(12), 4);
-        due("year without months", new JuneVote().about(5), NONE);
+        due("year without months", new JuneVote().about(5), 0);
         due("month without months", new JuneVote().about(6), NONE);
+        JuneVote people = made("person a votes 1; sun 5 and 1 of 2;");
+        due("year of people alone", people.about(5), 0);
+        due("month of people alone", people.about(6), NONE);
+        due("forgiven dues count", forgivenOf(two()).about(2), 2);
+    }
+
+    private static JuneVote forgivenOf(JuneVote x) {
+        x.forgive(0);
+        return x;
     }
 }

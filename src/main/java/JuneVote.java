@@ -1340,8 +1340,9 @@ public final class JuneVote {
             return republic.months > 0 ? were % republic.months : NONE;
         }
 
+        /** Years count from 0, and without months none was. */
         int nextYear() {
-            return republic.months > 0 ? were / republic.months : NONE;
+            return republic.months > 0 ? were / republic.months : 0;
         }
 
         boolean hadMonth(int i) {
@@ -1393,8 +1394,8 @@ public final class JuneVote {
             int sum = 0;
             for (int i = 0; i < republic.dues && i < MOST_DUES; i++) {
                 Due due = republic.dueAt(i);
-                // A forgiven due is none any more: nothing is got or paid by it.
-                if ((set >>> i & 1) != 0 && !forgiven[i]) {
+                // What is forgiven counts, too: who asks tells the set.
+                if ((set >>> i & 1) != 0) {
                     if (due.to == person) {
                         sum += due.pays;
                     }
