@@ -24,7 +24,7 @@ public final class RoomTest {
         int sum = x.republic();
         sum += useAll(x);
         long used = beans.getThreadAllocatedBytes(self) - before;
-        System.out.println(made + " bytes for a new object, " + used + " for its calls (" + sum + ")");
+        System.out.println(made + " bytes for a new object, " + used + " for its calls (their answers' sum: " + sum + ")");
         if (made > MOST_BYTES_NEW || used > MOST_BYTES_OF_CALLS) {
             System.exit(1);
         }
